@@ -191,9 +191,10 @@ public final class TripPanel {
         }
         int newlyTripped = 0;
         for (int t = 0; t < TRIPS; t++) {
-            if (trips[t] != null && trips[t].isDue()) {
-                trips[t].isTripped = true;
-                logEvent(t, trips[t].firstMet());
+            Trip trip = trips[t];
+            if (trip != null && !trip.isTripped && trip.isVoted()) {
+                trip.isTripped = true;
+                logEvent(t, trip.firstMet());
                 newlyTripped++;
             }
         }
@@ -487,10 +488,6 @@ public final class TripPanel {
             return compares(valueOf(number), relation, other.valueOf(other.number));
         }
 
-        boolean relatesToNumber(int relation, int n) {
-            return numbersRelate(number, relation, n);
-        }
-
         int rowPlace(int relation, int n) {
             int k = 0;
             while (k < row.size && !numbersRelate(row.at(k), relation, n)) {
@@ -509,7 +506,7 @@ public final class TripPanel {
             return count;
         }
 
-        private boolean numbersRelate(int x, int relation, int y) {
+        boolean numbersRelate(int x, int relation, int y) {
             if (x == GAP || y == GAP) {
                 return relation == UNLIKE;
             }
@@ -577,7 +574,7 @@ public final class TripPanel {
                 return false;
             }
             if (right == null) {
-                return left.relatesToNumber(relation, levelNumber);
+                return left.numbersRelate(left.number, relation, levelNumber);
             }
             return left.relatesToGauge(relation, right);
         }
@@ -606,8 +603,9 @@ public final class TripPanel {
 
         int countMet() {
             int count = 0;
-            for (int i = 0; i < partCount; i++) {
-                if (isPartMet(i)) {
+            for (int i = 0; i < partCount && i < PARTS; i++) {
+                Condition part = parts[i];
+                if (part != null && part.isMet()) {
                     count++;
                 }
             }
@@ -615,9 +613,10 @@ public final class TripPanel {
         }
 
         int firstMet() {
-            for (int i = 0; i < partCount; i++) {
-                if (isPartMet(i)) {
-                    return parts[i].id;
+            for (int i = 0; i < partCount && i < PARTS; i++) {
+                Condition part = parts[i];
+                if (part != null && part.isMet()) {
+                    return part.id;
                 }
             }
             return NONE;
@@ -625,14 +624,6 @@ public final class TripPanel {
 
         boolean isVoted() {
             return countMet() >= votesNeeded;
-        }
-
-        boolean isDue() {
-            return !isTripped && isVoted();
-        }
-
-        private boolean isPartMet(int i) {
-            return i >= 0 && i < PARTS && parts[i] != null && parts[i].isMet();
         }
     }
 }

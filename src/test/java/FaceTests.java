@@ -6,7 +6,9 @@ import java.lang.reflect.Modifier;
 import java.nio.file.Files;
 import java.nio.file.Path;
 import java.util.Arrays;
+import java.util.Map;
 import java.util.Set;
+import java.util.TreeMap;
 import java.util.TreeSet;
 import java.util.regex.Matcher;
 import java.util.regex.Pattern;
@@ -91,12 +93,61 @@ public final class FaceTests {
         }
     }
 
+    private static String codeWithoutComments() throws IOException {
+        return Files.readString(SOURCE).replaceAll("(?s)/\\*.*?\\*/", " ").replaceAll("//[^\n]*", " ");
+    }
+
     private static void text() throws IOException {
-        String source = Files.readString(SOURCE);
-        String code = source.replaceAll("(?s)/\\*.*?\\*/", " ").replaceAll("//[^\n]*", " ");
+        String code = codeWithoutComments();
         for (String banned : BANNED) {
             Matcher found = Pattern.compile(banned).matcher(code);
             need(!found.find(), "the text has no " + banned);
+        }
+    }
+
+    /** The bodies of all methods and constructors by name; methods of one name are taken together. */
+    private static Map<String, String> bodies(String code) {
+        Map<String, String> bodies = new TreeMap<>();
+        Matcher head = Pattern.compile("(?m)^ +(?!return|new|else)(?:[\\w\\[\\]]+ )*(\\w+)\\(([^()]*)\\) \\{$").matcher(code);
+        while (head.find()) {
+            if (Set.of("if", "for", "while", "switch").contains(head.group(1))) {
+                continue;
+            }
+            int end = head.end();
+            for (int open = 1; open > 0; end++) {
+                open += code.charAt(end) == '{' ? 1 : code.charAt(end) == '}' ? -1 : 0;
+            }
+            String body = code.substring(head.end(), end);
+            need(body.split("\n").length <= 60, head.group(1) + " is short");
+            need(head.group(2).split(",").length <= 7, head.group(1) + " takes at most seven parameters");
+            bodies.merge(head.group(1), body, String::concat);
+        }
+        return bodies;
+    }
+
+    private static int depth(Map<String, String> bodies, String name, int above) {
+        if (above > 50) {
+            return above;
+        }
+        int deepest = 1;
+        Matcher call = Pattern.compile("(\\w+)\\(").matcher(bodies.get(name));
+        while (call.find()) {
+            if (bodies.containsKey(call.group(1))) {
+                deepest = Math.max(deepest, 1 + depth(bodies, call.group(1), above + 1));
+            }
+        }
+        return deepest;
+    }
+
+    private static void callsAreShallow() throws IOException {
+        Map<String, String> bodies = bodies(codeWithoutComments());
+        for (String f : FACE) {
+            String name = f.substring(0, f.indexOf('('));
+            need(bodies.containsKey(name), name + " was found in the text");
+            if (bodies.containsKey(name)) {
+                int depth = depth(bodies, name, 0);
+                need(depth <= 8, name + " goes at most eight calls deep, not " + depth);
+            }
         }
     }
 
@@ -105,6 +156,7 @@ public final class FaceTests {
         fields();
         classesInside();
         text();
+        callsAreShallow();
         System.out.println(wrong == 0 ? "the face is as due" : wrong + " things are not as due");
         if (wrong != 0) {
             System.exit(1);
