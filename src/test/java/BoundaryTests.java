@@ -1,6 +1,8 @@
 import java.util.ArrayList;
 import java.util.Arrays;
+import java.util.HashSet;
 import java.util.List;
+import java.util.Set;
 import java.util.function.ToIntFunction;
 
 /**
@@ -24,12 +26,12 @@ public final class BoundaryTests {
 
     private static int wrong = 0;
     private static int answers = 0;
-    private static int sentences = 0;
+    private static final Set<String> SENTENCES = new HashSet<>();
     private static String sentence = "";
 
     private static void sentence(String text) {
         sentence = text;
-        sentences++;
+        SENTENCES.add(text);
     }
 
     private static void due(int got, int want) {
@@ -72,7 +74,7 @@ public final class BoundaryTests {
         extremes();
         abouts();
         manyCalls();
-        System.out.println(sentences + " sentences, " + answers + " answers, " + wrong + " not as due");
+        System.out.println(SENTENCES.size() + " sentences, " + answers + " answers, " + wrong + " not as due");
         if (wrong != 0) {
             System.exit(1);
         }
